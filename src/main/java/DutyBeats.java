@@ -606,9 +606,8 @@ public final class DutyBeats {
         for (int one = 0; one <= MOST_RULES; one++) {
             int alike = 0;
             for (int other = 0; other <= MOST_RULES; other++) {
-                if ((so >> other & 1) == 1 && watched[one * MOST_ROADS + road] == watched[other * MOST_ROADS + road]) {
-                    alike++;
-                }
+                boolean same = watched[one * MOST_ROADS + road] == watched[other * MOST_ROADS + road];
+                alike += same && (so >> other & 1) == 1 ? 1 : 0;
             }
             most = (so >> one & 1) == 1 ? Math.max(most, alike) : most;
         }
@@ -1338,11 +1337,19 @@ public final class DutyBeats {
             return many;
         }
 
+        /** The ROADS that are LET IN, as bits; without a RULE the score says which. */
         int oneBeat(Rule rule) {
             arrive();
-            int set = letIn(rule);
-            goThrough(set);
-            return set;
+            int let = 0;
+            int scored = score[beatOfBar()];
+            for (int road = 0; road < roads; road++) {
+                if ((clash[road] & let) == 0) {
+                    boolean in = rule == null ? (scored >> road & 1) == 1 : rule.sumFor(this, road, let) > 0;
+                    let |= in ? 1 << road : 0;
+                }
+            }
+            goThrough(let);
+            return let;
         }
 
         void goOn(int beats, Rule rule) {
@@ -1357,18 +1364,6 @@ public final class DutyBeats {
                     addWaiting(road, 1);
                 }
             }
-        }
-
-        private int letIn(Rule rule) {
-            int let = 0;
-            int scored = score[beatOfBar()];
-            for (int road = 0; road < roads; road++) {
-                if ((clash[road] & let) == 0) {
-                    boolean in = rule == null ? (scored >> road & 1) == 1 : rule.sumFor(this, road, let) > 0;
-                    let |= in ? 1 << road : 0;
-                }
-            }
-            return let;
         }
 
         void goThrough(int set) {

@@ -451,6 +451,7 @@ public final class PromisesTest {
     letsIn("let 5 / 0 + 1 - 5 % 0", 0, 3);
     letsIn("let 5 / 0", 0, 0);
     letsIn("let 5 % 0", 0, 0);
+    letsIn(times("let 1 if 1=2;", 11) + "let 1 if [1=2 or 1=1 and [1=2 or 1=1 and [1=2 or 1=1 and [1=2 or 2=1+1]]]]", 0, 3);
     letsIn("let 8 - 3 - 4", 0, 3);
     letsIn("let 8 - 3 - 5", 0, 0);
     letsIn("let 20 / 3 / 2 - 2", 0, 3);
@@ -767,6 +768,9 @@ public final class PromisesTest {
     DutyBeats zero = at("junction 1 9;road 0 1 0;score 0 0");
     zero.beat();
     due(23, "nobody waits, from this BEAT", zero.longest(100, 0) * 100 + zero.longest(100, 1) * 10 + zero.longest(100, 2), 10);
+    DutyBeats second = at("junction 1 1;road 3 12 0;road 5 12 0;road 5 12 0;score 0 1");
+    due(23, "the fullest ROAD", second.longest(1, 0) * 10 + second.longest(1, 2), 62);
+    due(21, "the fullest ROAD of several", at("junction 1 1;road 3 12 0;road 21 12 0").leastRoom(1), -2);
     due(23, "100 BEATS", at("junction 1 1;road 0 1 0").longest(100, 0), 100);
   }
 
@@ -806,6 +810,12 @@ public final class PromisesTest {
     DutyBeats kept = at("junction 1 9;road 0 2 0;road 0 2 0;score 0 1");
     due(25, "kept out", kept.rests(0, 1, 9, 0) * 100 + kept.rests(0, 1, 9, 1) * 10 + kept.rests(0, 1, 9, 2), 351);
     due(25, "the other way", kept.rests(1, 0, 9, 0) * 100 + kept.rests(1, 0, 9, 1) * 10 + kept.rests(1, 0, 9, 2), 315);
+    // BEAT 1, EVERY 1 or not: 3 and 3 wait: 1, -1; 3 and 2: -1, 1; 2 and 3: 0, 1; 2 and 2: 0, 0
+    DutyBeats chase = forced("junction 1 1;road 1 1 0;road 1 1 0",
+        "let 1 if road = 0 and all % 5 = 1 or road = 1 and all % 2 = 1");
+    due(25, "none", chase.rests(0, 1, 2, 0), 0);
+    due(25, "none, first", chase.rests(0, 1, 2, 1), -2);
+    due(25, "none, second", chase.rests(0, 1, 2, 2), -2);
     kept.beat();
     // BEATS 1 to 3: on ROAD 0 one waits: EVERY 1: 4, -1; all others 2 at most, 0; from ROAD 1 go 3, 1, 0, 0, 0
     due(25, "by the BEAT, not from now", kept.rests(0, 1, 3, 0) * 100 + kept.rests(0, 1, 3, 1) * 10 + kept.rests(0, 1, 3, 2), 431);
@@ -1051,6 +1061,7 @@ public final class PromisesTest {
     due(36, "x then", x.count(12), 8);
     x.beat();
     due(36, "IMAGES stay", x.back(0), 2);
+    due(36, "nothing can be UNDONE", x.count(11) * 10 + x.undo(), -1);
     due(36, "the text as it was told", x.ruled(0), 0);
     DutyBeats empty = new DutyBeats();
     due(35, "without a JUNCTION", empty.image(0), 0);
