@@ -1461,6 +1461,9 @@ public final class DutyBeats {
     private static final class RowSearch {
         static final int MOST_BEATS = 3;
 
+        /** More than on all ROADS together can have been WAITED. */
+        private static final int NO_ROW_YET = MOST_ROADS * Junction.MOST_WAITED + 1;
+
         private final int[][] waitedBy = new int[MOST_ROADS][1 << MOST_BEATS];
         private final int[][] waitingBy = new int[MOST_ROADS][1 << MOST_BEATS];
         private final int[] sets = new int[1 << MOST_ROADS];
@@ -1478,7 +1481,7 @@ public final class DutyBeats {
             roads = now.roads;
             beats = n;
             heardBefore = now.heard;
-            leastWaited = Integer.MAX_VALUE;
+            leastWaited = NO_ROW_YET;
             mostHeard = 0;
             setCount = 0;
             for (int set = 0; set < 1 << roads; set++) {

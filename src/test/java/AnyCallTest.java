@@ -5,7 +5,7 @@ import java.util.List;
 import java.util.Random;
 
 /** No call throws, whatever it is asked, in whatever state; and the same calls answer the same. */
-public final class AnyCallTest {
+public final class AnyCallTest extends Told {
   private static final int[] ODD = {Integer.MIN_VALUE, Integer.MIN_VALUE + 1, -100001, -400, -3, -2, -1, 0, 1, 2, 3, 4, 5, 6, 7, 9, 10, 11,
     12, 13, 20, 21, 30, 31, 60, 61, 99, 100, 101, 399, 400, 401, 998, 999, 1000, 9999, 10000, Integer.MAX_VALUE - 1, Integer.MAX_VALUE};
   private static final String[] TEXTS = {
@@ -44,15 +44,6 @@ public final class AnyCallTest {
       }
     }
     return answers;
-  }
-  private static void tell(DutyBeats x, String text) {
-    x.end(0);
-    for (int at = 0; at < text.length(); at += 20) {
-      int[] v = new int[5];
-      for (int i = 0; i < 20; i++) v[i / 4] = v[i / 4] << 8 | (at + i < text.length() ? text.charAt(at + i) & 255 : 0);
-      x.feed(v[0], v[1], v[2], v[3], v[4]);
-    }
-    x.end(text.length());
   }
 
   public static void main(String[] args) throws Exception {

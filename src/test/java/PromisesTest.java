@@ -1,7 +1,5 @@
 /** For each promise of the document what it asks for, reckoned by hand: ordinary calls, edges, wrong calls. */
-public final class PromisesTest {
-  private static final String SMALL = "junction 3 2;road 4 2 0;road 3 1 4;road 0 3 7;clash 0 2;"
-      + "score 0 0;score 0 1;score 1 2;score 2 1";
+public final class PromisesTest extends Told {
   private static int wrong = 0;
   private static int asked = 0;
 
@@ -12,33 +10,6 @@ public final class PromisesTest {
       System.out.println("promise " + promise + ": " + what + " answered " + got + ", due is " + want);
     }
   }
-  private static void tell(DutyBeats x, String text) {
-    x.end(0);
-    for (int at = 0; at < text.length(); at += 20) {
-      int[] v = new int[5];
-      for (int i = 0; i < 20; i++) v[i / 4] = v[i / 4] << 8 | (at + i < text.length() ? text.charAt(at + i) & 255 : 0);
-      x.feed(v[0], v[1], v[2], v[3], v[4]);
-    }
-    x.end(text.length());
-  }
-  private static DutyBeats at(String junction, String... rules) {
-    DutyBeats x = new DutyBeats();
-    tell(x, junction);
-    x.junction();
-    for (String rule : rules) {
-      tell(x, rule);
-      x.rule();
-    }
-    return x;
-  }
-  private static DutyBeats forced(String junction, String rule) {
-    DutyBeats x = at(junction, rule);
-    x.force(0);
-    return x;
-  }
-  private static void beats(DutyBeats x, int n) { for (int i = 0; i < n; i++) x.beat(); }
-  private static void comes(DutyBeats x, int road, int n) { for (int i = 0; i < n; i++) x.come(road, 20); }
-  private static String times(String text, int n) { return text.repeat(n); }
 
   /** ^ marks the place of the FAULT, and is not told. */
   private static void junctionFault(String marked, int kind) {
@@ -451,7 +422,11 @@ public final class PromisesTest {
     letsIn("let 5 / 0 + 1 - 5 % 0", 0, 3);
     letsIn("let 5 / 0", 0, 0);
     letsIn("let 5 % 0", 0, 0);
-    letsIn(times("let 1 if 1=2;", 11) + "let 1 if [1=2 or 1=1 and [1=2 or 1=1 and [1=2 or 1=1 and [1=2 or 2=1+1]]]]", 0, 3);
+    letsIn(times("let 1 if 1=2;", 7) + "let 1 if [1=2 or 1=1 and [1=2 or 1=1 and [1=2 or 1=1 and [1=2 or 2=1+1]]]]", 0, 3);
+    letsIn(times("let 1 if 1=2;", 7) + "let 1 if [1=2 or 1=1 and [1=2 or 1=1 and [1=2 or 1=1 and [1=2 or 2=1+2]]]]", 0, 0);
+    // the most that can stand open: a SUM, two joined FACTS in each of 9 brackets, then 4 of a FACT
+    letsIn("let 1 if " + times("1=2 or 1=1 and [", 9) + "2=1+1*1" + times("]", 9), 0, 3);
+    letsIn("let 1 if " + times("1=2 or 1=1 and [", 9) + "1=1+1*1" + times("]", 9), 0, 0);
     letsIn("let 8 - 3 - 4", 0, 3);
     letsIn("let 8 - 3 - 5", 0, 0);
     letsIn("let 20 / 3 / 2 - 2", 0, 3);

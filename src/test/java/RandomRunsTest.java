@@ -142,8 +142,7 @@ public final class RandomRunsTest {
   private void tell(String text) {
     if (!oneIn(12)) due("end(0)", x.end(0), o.end(0));
     for (int at = 0; at < text.length(); at += 20) {
-      int[] v = new int[5];
-      for (int i = 0; i < 20; i++) v[i / 4] = v[i / 4] << 8 | (at + i < text.length() ? text.charAt(at + i) & 255 : 0);
+      int[] v = Told.twenty(text, at);
       due("feed " + text, x.feed(v[0], v[1], v[2], v[3], v[4]), o.feed(v[0], v[1], v[2], v[3], v[4]));
     }
     if (!oneIn(20)) due("end(" + text.length() + ")", x.end(text.length()), o.end(text.length()));
