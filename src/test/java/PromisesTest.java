@@ -1048,6 +1048,23 @@ public final class PromisesTest extends Told {
     due(36, "no ROADS", empty.count(2) + empty.count(0), 0);
   }
 
+  /** What README.md shows. */
+  private static void readme() {
+    DutyBeats x = new DutyBeats();
+    tell(x, "junction 3 2;road 4 2 0;road 3 1 4;clash 0 1;score 0 0;score 1 1");
+    due(4, "README: junction()", x.junction(), 2);
+    due(9, "README: beat()", x.beat(), 1);
+    due(7, "README: road(0, 0)", x.road(0, 0), 3);
+    due(15, "README: ahead(1, 5, 1)", x.ahead(1, 5, 1), 4);
+    tell(x, "let 1 if wait > 3 or since > 1; let scored");
+    due(5, "README: rule()", x.rule(), 0);
+    due(6, "README: force(0)", x.force(0), -1);
+    due(9, "README: beat() by the RULE", x.beat(), 2);
+    due(14, "README: undo()", x.undo(), 1);
+    tell(x, "let 1 if wait >");
+    due(5, "README: rule() of a faulty text", x.rule(), -123);
+  }
+
   public static void main(String[] args) {
     newObject();
     tape();
@@ -1093,6 +1110,7 @@ public final class PromisesTest extends Told {
     heard();
     waited();
     images();
+    readme();
     System.out.println("PromisesTest: " + asked + " asked, " + wrong + " wrong");
     if (wrong != 0) System.exit(1);
   }
